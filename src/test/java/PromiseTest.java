@@ -324,7 +324,8 @@ public final class PromiseTest {
         DUE.refused(x, "11 a ninth of the side 3", INDEX, () -> x.contact(3, true, 5));
         DUE.is("11 none was on the target", x.halt(), 0);
         x.allez();
-        DUE.is("11 a new phrase begins anew", x.contact(0, true, 0), 1);
+        DUE.is("11 a new phrase begins anew", x.contact(0, true, 3), 1);
+        DUE.refused(x, "11 earlier than the first one", ARGUMENT, () -> x.contact(1, true, 2));
     }
 
     private static void promise12Right() {
@@ -786,6 +787,13 @@ public final class PromiseTest {
         DUE.refused(x, "30 the pools are not drawn", STATE, x::drawTableau);
         x.drawPools(1);
         DUE.refused(x, "30 bouts are open", STATE, x::drawTableau);
+        for (int open = 0; open < 3; open++) {
+            PisteLine y = hall(PisteLine.EPEE, 3);
+            y.drawPools(1);
+            win(y, open == 0 ? 1 : 0, 0);
+            win(y, open == 2 ? 1 : 2, 0);
+            DUE.refused(y, "30 just the bout " + open + " is open", STATE, y::drawTableau);
+        }
         win(x, 0, 0);
         win(x, 2, 0);
         x.begin(1, 0, 2);
@@ -899,6 +907,8 @@ public final class PromiseTest {
         goneByAnotherWinner();
         goneByTheBench();
         goneWithoutPhrases();
+        struckInTheFinal();
+        oneSideKnown();
     }
 
     private static void goneFurtherAbove() {
@@ -955,7 +965,9 @@ public final class PromiseTest {
         x.begin(101, second, x.fencerOf(101, 1));
         touch(x, 0);
         DUE.is("14 an appeal there", x.appeal(0, 0), 1);
+        DUE.is("14 one of the other side", x.appeal(1, 0), 1);
         DUE.is("24 is used up", x.appeals(101, 0), 1);
+        DUE.is("24 that, too", x.appeals(101, 1), 1);
         x.test(other, 0, 0);
         dueScore(x, 102, 0, 5, x.fencerOf(102, 1));
         DUE.is("33 another winner", x.gone(), 1);
@@ -963,6 +975,7 @@ public final class PromiseTest {
         DUE.is("15 the piste is empty", x.piste(), NONE);
         DUE.is("22 without phrases", x.phrases(101), 0);
         DUE.is("24 with all appeals", x.appeals(101, 0), 2);
+        DUE.is("24 of both sides", x.appeals(101, 1), 2);
         DUE.is("19 without a score", x.score(101, 0), 0);
         DUE.is("8 comes anew", x.begin(101, x.fencerOf(101, 0), x.fencerOf(101, 1)), 0);
     }
@@ -1012,5 +1025,33 @@ public final class PromiseTest {
         DUE.is("33 one is gone", y.gone(), 1);
         DUE.is("32 not known", y.nodeWinner(3), NONE);
         DUE.is("32 still known", y.nodeWinner(2), y.fencerOf(102, 0));
+    }
+
+    private static void struckInTheFinal() {
+        PisteLine x = drawn(2);
+        win(x, 101, 1);
+        DUE.is("32 the tableau is won", x.nodeWinner(1), 1);
+        x.test(1, 0, 0);
+        dueScore(x, 101, 0, 0, NONE);
+        DUE.is("32 and is open again", x.nodeWinner(1), NONE);
+        DUE.is("22 the phrases stay", x.phrases(101), 5);
+        DUE.is("33 nothing rested on it", x.gone(), 0);
+        DUE.is("15 it stays on the piste", x.piste(), 101);
+        x.change(1, spare(x, 1));
+        touches(x, 0, 5);
+        dueScore(x, 101, 5, 0, 0);
+    }
+
+    private static void oneSideKnown() {
+        PisteLine x = drawn(8);
+        win(x, 106, 0);
+        DUE.is("18 the one side", x.fencerOf(103, 0), x.nodeWinner(6));
+        DUE.is("18 not yet the other one", x.fencerOf(103, 1), NONE);
+        // Not known is not nobody: there will be a bout.
+        DUE.is("32 no winner without the bout", x.nodeWinner(3), NONE);
+        DUE.is("21 nor told by it", x.winner(103), NONE);
+        win(x, 107, 1);
+        DUE.is("32 nor with both known", x.nodeWinner(3), NONE);
+        DUE.is("18 both are known", x.fencerOf(103, 1), x.nodeWinner(7));
     }
 }
