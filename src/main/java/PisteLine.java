@@ -433,13 +433,23 @@ public final class PisteLine {
     }
 
     private void drawPool(int pool, int pools) {
-        for (int low = pool; low < fencerCount; low += pools) {
-            for (int high = low + pools; high < fencerCount; high += pools) {
-                if (poolBoutCount < MOST_POOL_BOUTS) {
-                    poolRow[poolBoutCount] = new Bout(true, low, high);
-                    poolBoutCount++;
+        for (int low = 0; low < fencerCount; low++) {
+            for (int high = low + 1; high < fencerCount; high++) {
+                if (poolOf(low, pools) == pool && poolOf(high, pools) == pool) {
+                    addPoolBout(low, high);
                 }
             }
+        }
+    }
+
+    private static int poolOf(int fencer, int pools) {
+        return pools > 0 ? fencer % pools : NONE;
+    }
+
+    private void addPoolBout(int low, int high) {
+        if (poolBoutCount < MOST_POOL_BOUTS) {
+            poolRow[poolBoutCount] = new Bout(true, low, high);
+            poolBoutCount++;
         }
     }
 

@@ -1,10 +1,7 @@
 /** Counts the answers that are not as they are due, and tells them. */
 final class Due {
-    interface Call {
-        long run();
-    }
-
     private final String name;
+    private String part = "";
     private int asked;
     private int wrong;
 
@@ -12,11 +9,15 @@ final class Due {
         this.name = name;
     }
 
+    /** What is asked from here on belongs to this part. */
+    void part(String newPart) {
+        part = " " + newPart;
+    }
+
     void is(String what, long got, long want) {
         asked++;
         if (got != want) {
-            wrong++;
-            System.out.println(name + ": " + what + " answered " + got + ", due is " + want);
+            tell(what + " answered " + got + ", due is " + want);
         }
     }
 
@@ -27,26 +28,31 @@ final class Due {
     void same(String what, String got, String want) {
         asked++;
         if (!got.equals(want)) {
-            wrong++;
-            System.out.println(name + ": " + what + " is\n" + got + "\ndue is\n" + want);
+            tell(what + " is\n" + got + "\ndue is\n" + want);
         }
     }
 
-    /** The call throws just this exception, and changes nothing that can be asked. */
-    void refused(PisteLine x, String what, Class<? extends RuntimeException> due, Call call) {
+    /** The call throws just this exception, and changes nothing: neither now nor in what comes later. */
+    void refused(Hall x, String what, Class<? extends RuntimeException> due, Ask call) {
+        Recorder tape = Recorder.of(x);
+        String before = Snapshot.of(tape.real());
+        same(what, Ask.answer(tape.real(), call), due.getSimpleName());
+        same("the state after " + what, Snapshot.of(tape.real()), before);
+        for (Aftermath aftermath : Aftermath.values()) {
+            Hall with = tape.again();
+            Ask.answer(with, call);
+            same("what follows " + what, aftermath.of(with), aftermath.of(tape.again()));
+        }
+    }
+
+    void fault(String what) {
         asked++;
-        String before = Snapshot.of(new RealHall(x));
-        String got = "nothing";
-        try {
-            call.run();
-        } catch (RuntimeException e) {
-            got = e.getClass().getSimpleName();
-        }
-        if (!got.equals(due.getSimpleName())) {
-            wrong++;
-            System.out.println(name + ": " + what + " threw " + got + ", due is " + due.getSimpleName());
-        }
-        same("the state after " + what, Snapshot.of(new RealHall(x)), before);
+        tell(what);
+    }
+
+    private void tell(String what) {
+        wrong++;
+        System.out.println(name + part + ": " + what);
     }
 
     void end() {

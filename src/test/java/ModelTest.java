@@ -6,10 +6,6 @@ public final class ModelTest {
     private static final int RUNS = 700;
     private static final int CALLS = 512;
 
-    private interface Ask {
-        long of(Hall hall);
-    }
-
     private final Due due;
     private final Hall real;
     private final Hall model;
@@ -229,21 +225,13 @@ public final class ModelTest {
         if (isWrong) {
             return;
         }
-        String got = answer(real, ask);
-        String want = answer(model, ask);
+        String got = Ask.answer(real, ask);
+        String want = Ask.answer(model, ask);
         log.append('\n').append(name).append(" = ").append(got);
         if (!got.equals(want)) {
             isWrong = true;
             System.out.println(log);
         }
         due.same(name, got, want);
-    }
-
-    private static String answer(Hall hall, Ask ask) {
-        try {
-            return Long.toString(ask.of(hall));
-        } catch (RuntimeException e) {
-            return e.getClass().getSimpleName();
-        }
     }
 }
