@@ -251,6 +251,23 @@ public final class JudgingTest extends Edges {
         dueScore(x, 0, 0, 3, 1);
     }
 
+    @Sentence("A weapon found false strikes its touches, and what rests on them is fenced again.")
+    static void strikesInManyBouts() {
+        Hall x = hall(EPEE, 12);
+        x.drawPools(1);
+        int[] bouts = {10, 20, 65};
+        for (int bout : bouts) {
+            win(x, bout, 1);
+        }
+        is("won(11)", x.won(11), 3);
+        x.test(11, 0, 0);
+        for (int bout : bouts) {
+            dueScore(x, bout, 0, 0, NONE);
+            is("phrases of " + bout, x.phrases(bout), 3);
+        }
+        is("won(11) then", x.won(11), 0);
+    }
+
     @Sentence("Touches are told from what is kept, and once more from the raw contacts.")
     static void keptAndAnew() {
         Hall x = onPiste(FOIL);

@@ -245,6 +245,22 @@ public final class PoolsTest extends Edges {
     @Sentence("One fencer ranks ahead of another one if the quotient of bouts won by bouts is greater (0 without bouts), "
         + "exactly; of the same if the index is greater, then if there are more touches given, then if the number is "
         + "lower.")
+    static void quotientWithoutBouts() {
+        Hall x = hall(EPEE, 6);
+        x.drawPools(2);
+        x.begin(0, 0, 2);
+        both(x);
+        both(x);
+        touch(x, 0);
+        win(x, 1, 1);
+        is("index(0), by 3 to 2 and 0 to 3", x.index(0), -2);
+        // 4 has 1 of 1, and 0 has 1 of 2; 1, 3 and 5 have no bouts, and the index 0; 2 has 0 of 1.
+        dueRanks(x, 4, 0, 1, 3, 5, 2);
+    }
+
+    @Sentence("One fencer ranks ahead of another one if the quotient of bouts won by bouts is greater (0 without bouts), "
+        + "exactly; of the same if the index is greater, then if there are more touches given, then if the number is "
+        + "lower.")
     static void quotientsAreExact() {
         Hall x = hall(EPEE, 12);
         x.drawPools(1);
