@@ -58,8 +58,10 @@ public final class FaceTest {
             due.is(inside + " is static", Modifier.isStatic(inside.getModifiers()), true);
             due.is(inside + " is not open", Modifier.isPublic(inside.getModifiers()), false);
             noFaceName(due, inside);
+            noGreatClass(due, inside);
         }
         noFaceName(due, PisteLine.class);
+        noGreatClass(due, PisteLine.class);
         due.end();
     }
 
@@ -93,6 +95,18 @@ public final class FaceTest {
             }
         }
         return found;
+    }
+
+    /** The sizes that LANGUAGE.md tells: some twenty fields a class, seven parameters a method. */
+    private static void noGreatClass(Due due, Class<?> type) {
+        int fields = 0;
+        for (Field field : type.getDeclaredFields()) {
+            fields += Modifier.isStatic(field.getModifiers()) ? 0 : 1;
+        }
+        due.is("the fields of " + type + " are at most 20", fields <= 20, true);
+        for (Method method : type.getDeclaredMethods()) {
+            due.is(method + " takes at most 7", method.getParameterCount() <= 7, true);
+        }
     }
 
     private static void noFaceName(Due due, Class<?> type) {

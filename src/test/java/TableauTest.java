@@ -394,6 +394,24 @@ public final class TableauTest extends Edges {
     }
 
     @Sentence(GONE)
+    static void whoeverTheWinnerWas() {
+        for (int f = 0; f < 4; f++) {
+            Hall x = drawn(4);
+            int bout = f == 0 || f == 3 ? 102 : 103;
+            win(x, 102, f == 3 ? 1 : 0);
+            win(x, 103, f == 2 ? 1 : 0);
+            begin(x, 101);
+            touch(x, 0);
+            is("the winner", x.winner(bout), f);
+            x.test(f, 0, 0);
+            is("not known any more", x.winner(bout), NONE);
+            dueUnfenced(x, 101);
+            dueEmptyPiste(x);
+            is("gone() behind " + f, x.gone(), 1);
+        }
+    }
+
+    @Sentence(GONE)
     static void comesAnew() {
         Hall x = inTheFinal();
         is("a fruitless appeal", x.appeal(1, 0), 2);
