@@ -95,6 +95,27 @@ public final class JudgingTest extends Edges {
         dueTouches(FOIL, "r0:0 0-5 0+6 1+7", 0);
     }
 
+    @Sentence("A phrase is a row of at most 8 events, each at a time, none earlier than the one ahead of it: a contact of "
+        + "a side, on or off the target; or that a side, or none, has the right from then on.")
+    static void lightsInEachPlaceOfTheRow() {
+        for (int ahead = 0; ahead < 8; ahead++) {
+            for (int side = 0; side < 2; side++) {
+                dueTouches(EPEE, (1 - side + "-0 ").repeat(ahead) + side + "+9", 1 + side);
+                dueTouches(FOIL, ("r" + (1 - side) + ":0 ").repeat(ahead) + side + "+9", 1 + side);
+            }
+        }
+        for (int between = 0; between < 7; between++) {
+            for (int side = 0; side < 2; side++) {
+                dueTouches(EPEE, side + "+0 " + (1 - side + "-0 ").repeat(between) + (1 - side) + "+9", 3);
+                dueTouches(FOIL, side + "+0 " + "rN:0 ".repeat(between) + (1 - side) + "+9", 0);
+            }
+        }
+        for (int ahead = 0; ahead < 6; ahead++) {
+            dueTouches(FOIL, "rN:0 ".repeat(ahead) + "r1:1 0+2 1+9", 2);
+            dueTouches(FOIL, "r1:0 ".repeat(ahead) + "r0:1 1+2 0+9", 1);
+        }
+    }
+
     @Sentence("(Events of the same time are in the order in which they were told.)")
     static void eventsOfTheSameTime() {
         dueTouches(FOIL, "r0:5 0+5 1+5", 1);
